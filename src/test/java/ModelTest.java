@@ -93,6 +93,11 @@ public final class ModelTest {
         }
     }
 
+    /** Mostly hundreds, so that wagons come to be just full. */
+    private int someKilos(int most) {
+        return below(4) == 0 ? about(1, most) : 100 * from(1, 8);
+    }
+
     private int someNodes() {
         switch (below(8)) {
             case 0:
@@ -112,7 +117,7 @@ public final class ModelTest {
             case 0:
                 return below(4) != 0 ? "bound" : "piles " + about(1, 4) + " " + about(1, 5);
             case 1: case 2: case 3: case 4: case 5: case 6: case 7: case 8:
-                return "put " + about(0, 3) + " " + about(1, 1000) + " "
+                return "put " + about(0, 3) + " " + someKilos(1000) + " "
                         + (below(20) == 0 ? about(1, 100) : from(1, lengths));
             case 9: case 10: case 11: case 12: case 13: case 14:
                 return "want " + about(0, 9) + " " + (below(9) == 0 ? about(-1, 99) : from(0, times));
@@ -135,7 +140,7 @@ public final class ModelTest {
             case 36:
                 return "tidy " + (below(2) == 0 ? from(0, 2) : about(0, 20));
             case 37:
-                return "wagon " + about(1, 5000);
+                return "wagon " + someKilos(5000);
             default:
                 return "load " + about(0, 9);
         }
@@ -203,6 +208,28 @@ public final class ModelTest {
         tellAll(x, m);
     }
 
+    /** Few pieces on many piles, moved and wanted anew again and again. */
+    private void oneStirring() {
+        PileLifts x = new PileLifts();
+        Model m = new Model();
+        tell(x, m, "piles " + from(3, 4) + " " + from(3, 5));
+        for (int i = 0; i < 10; i++) {
+            tell(x, m, "put " + from(0, 3) + " 1 " + from(1, 3));
+        }
+        for (int i = 0; i < 40; i++) {
+            tell(x, m, "want " + from(0, 9) + " " + from(-1, 4));
+            if (below(3) == 0) {
+                tell(x, m, "run " + from(0, 2000));
+                tell(x, m, "replay " + from(0, 1));
+            } else {
+                tell(x, m, "tidy " + from(0, 2));
+                tell(x, m, "want " + from(0, 9) + " -1");
+            }
+            tell(x, m, "bound");
+        }
+        tellAll(x, m);
+    }
+
     public static void main(String[] args) {
         ModelTest test = new ModelTest();
         for (int object = 0; object < OBJECTS && test.due.isAllRight(); object++) {
@@ -212,6 +239,10 @@ public final class ModelTest {
         for (int object = 0; object < OBJECTS / 10 && test.due.isAllRight(); object++) {
             test.seed = 104729L * object + 5;
             test.oneDeepSearch();
+        }
+        for (int object = 0; object < OBJECTS && test.due.isAllRight(); object++) {
+            test.seed = 1299709L * object + 3;
+            test.oneStirring();
         }
         test.due.end();
     }

@@ -92,12 +92,14 @@ public final class PromisesTest {
         piles(x, Integer.MIN_VALUE, 3, false);
         piles(x, 3, Integer.MAX_VALUE, false);
         DUE.is("piles: a wrong call forgets nothing", 0, () -> x.at(0, 4));
+        x.put(0, 1, 1);
         x.run(0);
         piles(x, 1, 1, true);
         noSearch("piles", x);
         DUE.throwsIndex("piles: pieces are forgotten", () -> x.at(0, 0));
         DUE.throwsIndex("piles: there is one", () -> x.put(1, 1, 1));
-        DUE.is("piles: numbers begin again", 0, () -> x.put(0, 1, 1));
+        DUE.is("piles: numbers begin again", 0, () -> x.put(0, 1, 2));
+        place("piles: empty again", x, 0, 0, 0);
         DUE.is("piles: a time is forgotten", -1, () -> x.at(0, 3));
         DUE.is("piles: a wagon is forgotten", -1, () -> x.at(0, 4));
         DUE.throwsMeaning("piles: one level", () -> x.put(0, 1, 1));
@@ -204,15 +206,21 @@ public final class PromisesTest {
         x.want(6, 0);
         DUE.is("bound: above one that is not wanted", 3, () -> x.bound());
 
-        PileLifts y = new PileLifts();
-        y.put(1, 1, 1);
-        y.put(0, 1, 1);
-        y.want(1, 5);
-        y.want(0, 9);
-        y.put(0, 1, 1);
-        y.want(2, 5);
-        y.run(5);
-        DUE.is("bound: a higher number on the same time", 1, () -> y.bound());
+        PileLifts moved = new PileLifts();
+        moved.piles(3, 4);
+        moved.put(0, 1, 5);
+        moved.put(1, 1, 9);
+        moved.put(1, 1, 7);
+        moved.put(2, 1, 5);
+        moved.want(1, 0);
+        moved.run(100);
+        plan("bound: piece 0 makes room", moved, 0, 2, 2, 0, 1, -1);
+        moved.replay(1);
+        place("bound: piece 0 lies above piece 3", moved, 0, 2, 1);
+        moved.want(3, 0);
+        DUE.is("bound: piece 0 counts too", 2, () -> moved.bound());
+        moved.want(0, 0);
+        DUE.is("bound: the same time, the lower number above", 1, () -> moved.bound());
     }
 
     private static void promiseRun() {
@@ -428,6 +436,11 @@ public final class PromisesTest {
         longer.want(0, 3);
         DUE.is("tidy: not on a shorter one", 1, () -> longer.tidy(20));
         place("tidy", longer, 1, 2, 0);
+
+        PileLifts first = yard(4, 0, 0, 2);
+        first.want(0, 3);
+        DUE.is("tidy: to the first pile", 1, () -> first.tidy(20));
+        place("tidy", first, 1, 0, 0);
 
         PileLifts later = yard(4, 2, 1);
         later.want(0, 3);
