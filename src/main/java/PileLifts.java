@@ -399,13 +399,12 @@ public final class PileLifts {
             nodesLeft = nodes;
             isCutShort = false;
             int blocking = yard.countBlocking();
-            limit = blocking;
-            while (limit <= MOST_RELIFTS && !hasPlan && !isCutShort) {
+            for (int round = blocking; round <= MOST_RELIFTS && !hasPlan && !isCutShort; round++) {
+                limit = round;
                 hasPlan = goOn(yard, 0, blocking);
                 int found = moveCount;
                 takeBack(yard, 0);
                 moveCount = hasPlan ? found : 0;
-                limit++;
             }
             isDone = true;
             isProved = !isCutShort;
